@@ -1068,10 +1068,10 @@ public final class SlabTurn {
     /** A SLAB as its TEXT told it. */
     private static final class Slab {
         boolean there;
-        int thick = 10;
-        int cold = 5;
+        int thick;
+        int cold;
         int salt;
-        int fat = 2;
+        int fat;
 
         void begin() {
             there = true;
@@ -1140,7 +1140,6 @@ public final class SlabTurn {
             for (int i = 0; i < other.count; i++) {
                 add(other.kindAt(i), other.heatAt(i), other.lengthAt(i));
             }
-            there = other.there;
         }
 
         boolean has(int i) {

@@ -220,7 +220,11 @@ public final class DishTest {
         SlabTurn rests = begun("t3", "d r2 o10:1 r1");
         rests.go(4);
         c.due("19 REST on end, from anew", rests.mark(0, 4), 1);
+        rests.dish(0, 0);
+        rests.go(1);
+        c.due("19 REST of the new DISH alone", rests.mark(0, 4), 1);
         browned();
+        brownedSlowly();
         c.refused(x, "19 mark(0, 0)", Checks.BAD, () -> x.mark(0, 0));
         c.refused(x, "19 mark(0, 7)", Checks.BAD, () -> x.mark(0, 7));
         c.refused(x, "19 mark(2, 1)", Checks.BAD, () -> x.mark(2, 1));
@@ -255,6 +259,22 @@ public final class DishTest {
         c.tells(x, "18 WET again", x.skin(0, 1), 1, 30);
         c.tells(x, "18 but still BURNT", x.skin(0, 0), 1, 6);
         c.tells(x, "18 the other one SALTED", x.skin(1, 0), 1, 5);
+    }
+
+    /** A SKIN that gets BROWN by 1 a TICK, so that each number from 0 to 101 and on is looked at. */
+    private static void brownedSlowly() {
+        int ones = 0;
+        for (int q = 15; q <= 30; q++) {
+            SlabTurn x = begun("t20 c5 f0", "d i" + q + ":60 i" + q + ":60 i" + q + ":60 i" + q + ":20");
+            for (int i = 0; i < 200; i++) {
+                x.go(1);
+                x.skin(0, 2);
+                int brown = x.asked();
+                c.tells(x, "18 KIND of BROWN " + brown, x.skin(0, 0), 1, brown > 100 ? 6 : brown >= 20 ? 3 : 0);
+                ones += brown == 19 || brown == 20 || brown == 100 || brown == 101 ? 1 : 0;
+            }
+        }
+        c.due("18 BROWN was 19, 20, 100, 101", ones >= 4 ? 1 : 0, 1);
     }
 
     private static void countsOfKinds() {
