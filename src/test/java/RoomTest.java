@@ -13,9 +13,9 @@ public final class RoomTest {
             return;
         }
         long me = Thread.currentThread().getId();
-        goThrough(new SlabTurn());
+        goThrough(new Kitchen());
         long before = room.getThreadAllocatedBytes(me);
-        SlabTurn x = new SlabTurn();
+        Kitchen x = new Kitchen();
         long made = room.getThreadAllocatedBytes(me) - before;
         before = room.getThreadAllocatedBytes(me);
         goThrough(x);
@@ -25,7 +25,7 @@ public final class RoomTest {
         c.end();
     }
 
-    private static void goThrough(SlabTurn x) {
+    private static void goThrough(Kitchen x) {
         Checks.slab(x, 0, "t20 c5");
         Checks.slab(x, 1, "t7 c9");
         Checks.plan(x, 0, "i28:60 u i28:60 b9:60 r20");

@@ -19,7 +19,7 @@ public final class RowsTest {
     }
 
     private static void newObject() {
-        SlabTurn x = new SlabTurn();
+        Kitchen x = new Kitchen();
         for (int what = 0; what <= 7; what++) {
             c.due("1 count(" + what + ")", x.count(what), 0);
         }
@@ -40,7 +40,7 @@ public final class RowsTest {
     }
 
     private static void row() {
-        SlabTurn x = new SlabTurn();
+        Kitchen x = new Kitchen();
         c.due("2 row(0, 3)", x.row(0, 3), 3);
         c.tells(x, "2 at(0, 2)", x.at(0, 2), 1, 0);
         c.due("2 at(0, 3)", x.at(0, 3), Checks.FINDING);
@@ -62,17 +62,19 @@ public final class RowsTest {
     }
 
     private static void layAndAt() {
-        SlabTurn x = new SlabTurn();
+        Kitchen x = new Kitchen();
         x.row(2, 2);
         c.tells(x, "3 lay(2, 1, lowest)", x.lay(2, 1, LOWEST), 1, 0);
         c.tells(x, "3 lay(2, 1, 9)", x.lay(2, 1, 9), 1, LOWEST);
         c.tells(x, "4 at(2, 1)", x.at(2, 1), 1, 9);
         c.tells(x, "4 at(2, 0)", x.at(2, 0), 1, 0);
         for (int i : new int[] {-1, 2, 40, LOWEST, GREATEST}) {
-            c.finds(x, "3 lay beyond", Checks.BEYOND, () -> x.lay(2, i, 1));
-            c.finds(x, "4 at beyond", Checks.BEYOND, () -> x.at(2, i));
-            c.finds(x, "3 lay of none", Checks.NOTHING, () -> x.lay(3, i, 1));
-            c.finds(x, "4 at of none", Checks.NOTHING, () -> x.at(3, i));
+            Kitchen y = new Kitchen();
+            y.row(2, 2);
+            c.finds(y, "3 lay beyond", Checks.BEYOND, () -> y.lay(2, i, 1));
+            c.finds(y, "4 at beyond", Checks.BEYOND, () -> y.at(2, i));
+            c.finds(y, "3 lay of none", Checks.NOTHING, () -> y.lay(3, i, 1));
+            c.finds(y, "4 at of none", Checks.NOTHING, () -> y.at(3, i));
         }
         for (int r : new int[] {-1, 6, LOWEST, GREATEST}) {
             c.refused(x, "3 lay of no number", Checks.BAD, () -> x.lay(r, 0, 1));
@@ -81,7 +83,7 @@ public final class RowsTest {
     }
 
     private static void tear() {
-        SlabTurn x = new SlabTurn();
+        Kitchen x = new Kitchen();
         x.row(1, 2);
         c.due("5 tear(1)", x.tear(1), 1);
         c.due("5 count(6)", x.count(6), 0);
@@ -91,7 +93,7 @@ public final class RowsTest {
     }
 
     private static void copy() {
-        SlabTurn x = new SlabTurn();
+        Kitchen x = new Kitchen();
         x.row(0, 5);
         x.row(1, 2);
         for (int i = 0; i < 5; i++) {
@@ -119,7 +121,7 @@ public final class RowsTest {
         c.finds(x, "6 far beyond", Checks.BEYOND, () -> x.copy(0, GREATEST, 1, GREATEST, GREATEST));
     }
 
-    private static int places(SlabTurn x, int r, int n) {
+    private static int places(Kitchen x, int r, int n) {
         int all = 0;
         for (int i = 0; i < n; i++) {
             x.at(r, i);
@@ -129,7 +131,7 @@ public final class RowsTest {
     }
 
     private static void mean() {
-        SlabTurn x = new SlabTurn();
+        Kitchen x = new Kitchen();
         x.row(0, 2);
         x.lay(0, 0, 3);
         c.tells(x, "7 mean of 3, 0", x.mean(0), 1, 1);
@@ -148,7 +150,7 @@ public final class RowsTest {
     }
 
     private static void textAndPut() {
-        SlabTurn x = new SlabTurn();
+        Kitchen x = new Kitchen();
         c.due("8 text(0, 80)", x.text(0, 80), 80);
         c.due("9 put: it was a blank", x.put(0, 79, 300), 1032);
         c.due("9 put: 300 is 44", x.put(0, 79, 200), 1044);
@@ -174,7 +176,7 @@ public final class RowsTest {
     }
 
     private static int faultOf(String s, boolean plan) {
-        SlabTurn x = new SlabTurn();
+        Kitchen x = new Kitchen();
         Checks.text(x, 0, s);
         int fault = x.fault(0, plan);
         int made = plan ? x.plan(0, 0) : x.slab(0, 0);
@@ -249,7 +251,7 @@ public final class RowsTest {
         duePlan("udududududud r5", 13);
         duePlan("udududududud  ", Checks.NONE);
         duePlan("t5", 0);
-        SlabTurn x = new SlabTurn();
+        Kitchen x = new Kitchen();
         c.finds(x, "10 fault of none", Checks.NOTHING, () -> x.fault(0, true));
         c.finds(x, "10 fault of none", Checks.NOTHING, () -> x.fault(3, false));
         c.refused(x, "10 fault(4)", Checks.BAD, () -> x.fault(4, true));
@@ -260,7 +262,7 @@ public final class RowsTest {
     }
 
     private static void slabAndAbout() {
-        SlabTurn x = new SlabTurn();
+        Kitchen x = new Kitchen();
         c.due("11 slab of no items", Checks.slab(x, 0, ""), 0);
         int[] plain = {10, 5, 0, 2};
         for (int what = 0; what <= 3; what++) {
@@ -287,7 +289,7 @@ public final class RowsTest {
     }
 
     private static void planAndStep() {
-        SlabTurn x = new SlabTurn();
+        Kitchen x = new Kitchen();
         c.due("12 plan", Checks.plan(x, 0, "i23:8o2:60 b30:1 r09 u d"), 6);
         int[] kinds = {1, 2, 3, 4, 5, 6};
         int[] numbers = {2308, 260, 3001, 9, 0, 0};

@@ -20,21 +20,20 @@ public final class RunsTest {
         "count 2 0,7", "finding 1", "findings 1 1,5", "asked 1", "upper 1", "lower 1",
     };
     private static final int[] WILD = {Integer.MIN_VALUE, -1000, -2, -1, 0, 1, 41, 81, 100, 1000, 100000, Integer.MAX_VALUE};
-    private static final int RUNS = 400, CALLS_OF_A_RUN = 120;
+    private static final int RUNS = 1500;
+    /** What compare(), end(), write() of a longest TEXT call at most. */
+    private static final int COMPARED = 4, ENDED = 7, WRITTEN = 80 + 4 * COMPARED;
 
     private long seed = 20261119;
     private final Checks checks = new Checks("RunsTest");
-    private final Map<String, Method> ours = new HashMap<>();
+    private final Map<String, Method> ours = Kitchen.calls();
     private final Map<String, Method> theirs = new HashMap<>();
-    private SlabTurn x;
+    private Kitchen x;
     private Model model;
     private int run;
 
     public static void main(String[] args) throws Exception {
         RunsTest test = new RunsTest();
-        for (Method m : SlabTurn.class.getDeclaredMethods()) {
-            test.ours.put(m.getName(), m);
-        }
         for (Method m : Model.class.getDeclaredMethods()) {
             if (!java.lang.reflect.Modifier.isPrivate(m.getModifiers())) {
                 test.theirs.put(m.getName(), m);
@@ -53,19 +52,19 @@ public final class RunsTest {
     }
 
     private void goThrough() throws Exception {
-        x = new SlabTurn();
+        x = new Kitchen();
         model = new Model();
         int sum = 0;
         for (String call : CALLS) {
             sum += Integer.parseInt(call.split(" ")[1]);
         }
         int meats = run % 7 == 0 ? 0 : any(1, 3);
-        for (int i = 0; i < meats; i++) {
+        for (int i = 0; i < meats && x.left() >= 300; i++) {
             write(any(0, 3), slabText(), false, any(0, 3));
             write(any(0, 3), planText(), true, any(0, 3));
         }
-        for (int i = 0; i < CALLS_OF_A_RUN; i++) {
-            if (any(0, 19) == 0) {
+        while (x.left() >= COMPARED + ENDED) {
+            if (any(0, 19) == 0 && x.left() >= WRITTEN + COMPARED + ENDED) {
                 boolean plan = any(0, 1) == 0;
                 write(any(0, 3), spoilt(plan ? planText() : slabText()), plan, any(0, 3));
             }
@@ -78,6 +77,7 @@ public final class RunsTest {
                 }
             }
         }
+        end();
     }
 
     private void callBoth(String[] call) throws Exception {
@@ -100,19 +100,26 @@ public final class RunsTest {
         long want = ((Number) theirs.get(name).invoke(model, args)).longValue();
         checks.due(what, got, want);
         checks.due(what + ", asked()", x.asked(), model.asked());
-        checks.due(what + ", upper()", x.upper(), model.upper());
-        checks.due(what + ", lower()", x.lower(), model.lower());
         checks.due(what + ", finding()", x.finding(), model.finding());
-        for (int f = 1; f <= 5; f++) {
-            checks.due(what + ", findings(" + f + ")", x.findings(f), model.findings(f));
-        }
         checks.due(what + ", digest()", x.digest(), model.digest());
+    }
+
+    /** What changes seldom is looked at once a run. */
+    private void end() {
+        checks.due("run " + run + ", upper()", x.upper(), model.upper());
+        checks.due("run " + run + ", lower()", x.lower(), model.lower());
+        for (int f = 1; f <= 5; f++) {
+            checks.due("run " + run + ", findings(" + f + ")", x.findings(f), model.findings(f));
+        }
     }
 
     /** Writes a TEXT sign by sign, looks for its FAULT, and makes a SLAB or a PLAN by it. */
     private void write(int t, String s, boolean plan, int k) throws Exception {
         compare("text", t, Math.min(s.length(), 80));
         for (int i = 0; i < s.length() && i < 80; i++) {
+            if (s.charAt(i) == ' ') {
+                continue;
+            }
             x.put(t, i, s.charAt(i));
             model.put(t, i, s.charAt(i));
         }

@@ -16,27 +16,47 @@ public final class SeveralTest {
         c.end();
     }
 
-    private static int middle(SlabTurn x, int thick, int what) {
+    private static int middle(Kitchen x, int thick, int what) {
         return Checks.told(x, x.depth(thick / 2, what));
+    }
+
+    /** What depth() tells of THE MIDDLE by each TICK (1 .. 200) of a PLAN. */
+    private static int[] middles(String slab, int thick, String plan, int what) {
+        int[] told = new int[201];
+        for (int from = 0; from < 200; from += 100) {
+            Kitchen x = new Kitchen();
+            Checks.slab(x, 0, slab);
+            Checks.plan(x, 0, plan);
+            x.dish(0, 0);
+            x.go(from);
+            for (int n = from + 1; n <= from + 100; n++) {
+                x.go(1);
+                told[n] = middle(x, thick, what);
+            }
+        }
+        return told;
+    }
+
+    /** The first TICK by which these are v or more; 201: none by 200. */
+    private static int firstOf(int[] told, int v) {
+        int n = 1;
+        while (n <= 200 && told[n] < v) {
+            n++;
+        }
+        return n;
+    }
+
+    private static String long200(String on) {
+        return on + ":60 " + on + ":60 " + on + ":60 " + on + ":20";
     }
 
     /** The TICKS of IRON without a turn till THE MIDDLE has a MOST of v; 201: not by 200. */
     private static int ticksTill(String slab, int thick, int q, int v) {
-        SlabTurn x = new SlabTurn();
-        Checks.slab(x, 0, slab);
-        Checks.plan(x, 0, "i" + q + ":60 i" + q + ":60 i" + q + ":60 i" + q + ":20");
-        x.dish(0, 0);
-        for (int n = 1; n <= 200; n++) {
-            x.go(1);
-            if (middle(x, thick, 1) >= v) {
-                return n;
-            }
-        }
-        return 201;
+        return firstOf(middles(slab, thick, long200("i" + q), 1), v);
     }
 
     private static void same() {
-        SlabTurn x = new SlabTurn();
+        Kitchen x = new Kitchen();
         Checks.slab(x, 0, "t4 c20");
         Checks.slab(x, 1, "t7 c5");
         int[][] asks = {{28, 500, 500}, {28, 600, 300}, {28, 0, 0}, {28, 0, 200}, {15, 700, 400}};
@@ -56,7 +76,10 @@ public final class SeveralTest {
             {0, 1, 31, 1, 0, 0}, {0, 1, 20, 0, 0, 0}, {0, 1, 20, 61, 0, 0}, {0, 1, 20, 1, -1, 0}, {0, 1, 20, 1, 2001, 0},
             {0, 1, 20, 1, 0, -1}, {0, 1, 20, 1, 0, 2001}, {2, 2, 20, 1, 0, 2001}};
         for (int[] b : bad) {
-            c.refused(x, "35 same" + Arrays.toString(b), Checks.BAD, () -> x.same(b[0], b[1], b[2], b[3], b[4], b[5]));
+            Kitchen y = new Kitchen();
+            Checks.slab(y, 0, "t4 c20");
+            Checks.slab(y, 1, "t7 c5");
+            c.refused(y, "35 same" + Arrays.toString(b), Checks.BAD, () -> y.same(b[0], b[1], b[2], b[3], b[4], b[5]));
         }
         c.finds(x, "35 no first SLAB", Checks.NOTHING, () -> x.same(2, 1, 20, 1, 0, 0));
         c.finds(x, "35 no other SLAB", Checks.NOTHING, () -> x.same(1, 2, 20, 1, 0, 0));
@@ -64,7 +87,7 @@ public final class SeveralTest {
 
     /** What THE MIDDLE has at TICK 200 for the first time counts, what it would have behind that does not. */
     private static void justTill200() {
-        SlabTurn x = new SlabTurn();
+        Kitchen x = new Kitchen();
         Checks.slab(x, 0, "t10 c5");
         Checks.plan(x, 0, "i10:57 u i10:57 u i10:57 u i10:29");
         x.dish(0, 0);
@@ -81,8 +104,8 @@ public final class SeveralTest {
     private static final String[] MEATS = {"t6 c10 f4", "t4 c20", "t9 c5 s12", "t3 c30 f9"};
     private static final String[] COOKED = {"i24:9 u i24:9", "o30:7 i20:4", "b8:30 i30:5 u i30:5", "i28:4 u i28:4 r3 u"};
 
-    private static SlabTurn kitchen() {
-        SlabTurn x = new SlabTurn();
+    private static Kitchen kitchen() {
+        Kitchen x = new Kitchen();
         for (int k = 0; k < 4; k++) {
             Checks.slab(x, k, MEATS[k]);
             Checks.plan(x, k, COOKED[k]);
@@ -92,7 +115,7 @@ public final class SeveralTest {
 
     /** What one loses that is made and RESTS for so long. */
     private static int loss(int k, int wait) {
-        SlabTurn x = kitchen();
+        Kitchen x = kitchen();
         x.go(x.dish(k, k));
         for (int left = wait; left > 0; left -= 60) {
             x.go(Math.min(left, 60));
@@ -101,7 +124,7 @@ public final class SeveralTest {
     }
 
     private static int ticks(int k) {
-        SlabTurn x = kitchen();
+        Kitchen x = kitchen();
         return x.dish(k, k);
     }
 
@@ -135,7 +158,7 @@ public final class SeveralTest {
         for (int set = 1; set <= 15; set++) {
             bestOrder = null;
             tryOrders(set, new int[0]);
-            SlabTurn x = kitchen();
+            Kitchen x = kitchen();
             x.row(4, 40);
             c.due("36 order(" + set + ", 4)", x.order(set, 4), bestLoss);
             for (int i = 0; i < bestOrder.length; i++) {
@@ -145,7 +168,7 @@ public final class SeveralTest {
             c.finds(x, "36 a ROW anew", Checks.BEYOND, () -> x.at(4, bestOrder.length));
         }
         c.due("36 not always by numbers", byNumbers ? 1 : 0, 0);
-        SlabTurn alike = new SlabTurn();
+        Kitchen alike = new Kitchen();
         for (int k = 0; k < 4; k++) {
             Checks.slab(alike, k, "");
             Checks.plan(alike, k, "");
@@ -158,7 +181,7 @@ public final class SeveralTest {
     }
 
     private static void refusedOrders() {
-        SlabTurn x = new SlabTurn();
+        Kitchen x = new Kitchen();
         x.row(0, 1);
         x.lay(0, 0, 77);
         Checks.slab(x, 0, "");
@@ -178,25 +201,17 @@ public final class SeveralTest {
     }
 
     private static void both() {
-        SlabTurn x = new SlabTurn();
+        Kitchen x = new Kitchen();
         Checks.slab(x, 0, "t4 c20 f3 s1");
         Checks.slab(x, 1, "t9 c5");
         int[][] asks = {{300, 400}, {500, 450}, {200, 50}, {201, 50}, {0, 2000}, {900, 700}};
+        int[] one = middles("t4 c20 f3 s1", 4, long200("o20"), 1);
+        int[] two = middles("t9 c5", 9, long200("o20"), 1);
         for (int[] a : asks) {
-            SlabTurn one = new SlabTurn();
-            SlabTurn two = new SlabTurn();
-            Checks.slab(one, 0, "t4 c20 f3 s1");
-            Checks.slab(two, 0, "t9 c5");
-            Checks.plan(one, 0, "o20:60 o20:60 o20:60 o20:20");
-            Checks.plan(two, 0, "o20:60 o20:60 o20:60 o20:20");
-            one.dish(0, 0);
-            two.dish(0, 0);
             int first = Checks.NONE;
             int all = 0;
             for (int n = 1; n <= 200; n++) {
-                one.go(1);
-                two.go(1);
-                if (middle(one, 4, 1) >= a[0] && middle(two, 9, 1) <= a[1]) {
+                if (one[n] >= a[0] && two[n] <= a[1]) {
                     first = first == Checks.NONE ? n : first;
                     all++;
                 }
@@ -212,7 +227,10 @@ public final class SeveralTest {
         int[][] bad = {{-1, 1, 20, 0, 0}, {4, 1, 20, 0, 0}, {0, -1, 20, 0, 0}, {0, 4, 20, 0, 0}, {0, 1, 1, 0, 0}, {0, 1, 31, 0, 0},
             {0, 1, 20, -1, 0}, {0, 1, 20, 2001, 0}, {0, 1, 20, 0, -1}, {0, 1, 20, 0, 2001}, {3, 3, 1, 0, 0}};
         for (int[] b : bad) {
-            c.refused(x, "37 both" + Arrays.toString(b), Checks.BAD, () -> x.both(b[0], b[1], b[2], b[3], b[4]));
+            Kitchen y = new Kitchen();
+            Checks.slab(y, 0, "t4 c20 f3 s1");
+            Checks.slab(y, 1, "t9 c5");
+            c.refused(y, "37 both" + Arrays.toString(b), Checks.BAD, () -> y.both(b[0], b[1], b[2], b[3], b[4]));
         }
         c.finds(x, "37 no SLAB", Checks.NOTHING, () -> x.both(3, 0, 20, 0, 0));
         c.finds(x, "37 no other SLAB", Checks.NOTHING, () -> x.both(0, 3, 20, 0, 0));
@@ -224,25 +242,21 @@ public final class SeveralTest {
         int[] thick = {3, 8, 20, 5, 12, 12};
         for (int s = 0; s < slabs.length; s++) {
             for (int q : new int[] {6, 7, 10, 30}) {
-                SlabTurn x = new SlabTurn();
+                Kitchen x = new Kitchen();
                 Checks.slab(x, 2, slabs[s]);
-                SlabTurn y = new SlabTurn();
-                Checks.slab(y, 2, slabs[s]);
-                Checks.plan(y, 0, "b" + q + ":60 b" + q + ":60 b" + q + ":60 b" + q + ":20");
-                y.dish(2, 0);
+                int[] warmth = middles(slabs[s], thick[s], long200("b" + q), 0);
                 int sum = 0;
                 int n = 0;
                 while (sum < 300 && n < 200) {
-                    y.go(1);
                     n++;
-                    sum += Math.max(0, middle(y, thick[s], 0) - 500) / 10;
+                    sum += Math.max(0, warmth[n] - 500) / 10;
                 }
                 int answer = x.safe(2, q);
                 c.due("38 safe of " + slabs[s] + " at " + q, answer, sum >= 300 ? n : Checks.NONE);
-                c.due("38 THE MIDDLE", x.asked(), sum >= 300 ? middle(y, thick[s], 0) : 0);
+                c.due("38 THE MIDDLE", x.asked(), sum >= 300 ? warmth[n] : 0);
             }
         }
-        SlabTurn x = new SlabTurn();
+        Kitchen x = new Kitchen();
         Checks.slab(x, 0, "t3");
         Checks.slab(x, 1, "t12 c28");
         c.due("38 just at TICK 200", x.safe(1, 6), 200);
@@ -257,7 +271,7 @@ public final class SeveralTest {
         c.finds(x, "38 safe of none", Checks.NOTHING, () -> x.safe(2, 5));
     }
 
-    private static void rowOf(SlabTurn x, int r, int... v) {
+    private static void rowOf(Kitchen x, int r, int... v) {
         x.row(r, v.length);
         for (int i = 0; i < v.length; i++) {
             x.lay(r, i, v[i]);
@@ -265,8 +279,8 @@ public final class SeveralTest {
     }
 
     /** SLABS 1 and 3 of four DEPTHS, 2 of five; PLANS 0 (raw), 1 (SKINS PINK), 3 (raw, too). */
-    private static SlabTurn slices() {
-        SlabTurn x = new SlabTurn();
+    private static Kitchen slices() {
+        Kitchen x = new Kitchen();
         Checks.slab(x, 1, "t4 c40");
         Checks.slab(x, 2, "t5 c40");
         Checks.slab(x, 3, "t4 c40 f9");
@@ -277,7 +291,7 @@ public final class SeveralTest {
     }
 
     private static void whichAndOdds() {
-        SlabTurn x = slices();
+        Kitchen x = slices();
         rowOf(x, 0, 0, 0, 0, 0);
         c.tells(x, "39 raw", x.which(0), 10, 0);
         odds(x, 0, 0, 4, 1, 2);
@@ -309,7 +323,7 @@ public final class SeveralTest {
         c.due("39 there was none", before == dish ? 1 : 0, 0);
     }
 
-    private static void odds(SlabTurn x, int r, int plan, int pairs, long upper, long lower) {
+    private static void odds(Kitchen x, int r, int plan, int pairs, long upper, long lower) {
         int asked = x.asked();
         String what = "40 odds(" + r + ", " + plan + ")";
         c.tells(x, what, x.odds(r, plan), pairs, asked);
@@ -318,7 +332,7 @@ public final class SeveralTest {
     }
 
     private static void refusedSlices() {
-        SlabTurn x = slices();
+        Kitchen x = slices();
         rowOf(x, 0, 0, 0);
         rowOf(x, 1, new int[21]);
         rowOf(x, 2, 0, 0, 3, 0);
@@ -341,6 +355,12 @@ public final class SeveralTest {
         }
         c.refused(x, "40 odds(4, 4)", Checks.BAD, () -> x.odds(4, 4));
         c.refused(x, "40 odds(4, -1)", Checks.BAD, () -> x.odds(4, -1));
+        slicesOfTheLimits();
+    }
+
+    private static void slicesOfTheLimits() {
+        Kitchen x = slices();
+        Checks.slab(x, 0, "t3");
         rowOf(x, 2, 3, 0, 0, 0);
         c.finds(x, "39 the first place", Checks.UNLIKE, () -> x.which(2));
         rowOf(x, 2, 0, 0, 0, -1);
@@ -349,7 +369,7 @@ public final class SeveralTest {
         rowOf(x, 1, 0, 0, 2);
         c.none(x, "39 twenty is a size", () -> x.which(0));
         c.tells(x, "39 three is a size", x.which(1), 0, 1);
-        SlabTurn y = new SlabTurn();
+        Kitchen y = new Kitchen();
         rowOf(y, 0, 0, 0, 0);
         c.none(y, "39 no SLABS", () -> y.which(0));
         c.finds(y, "40 no SLABS", Checks.NOUGHT, () -> y.odds(0, 0));
@@ -374,11 +394,11 @@ public final class SeveralTest {
                     best = x;
                 }
             }
-            SlabTurn x = new SlabTurn();
+            Kitchen x = new Kitchen();
             Checks.slab(x, 0, "t12 c20 s5");
             c.tells(x, "41 rule" + Arrays.toString(a), x.rule(0, a[0], 40, a[1]), best, least);
         }
-        SlabTurn x = new SlabTurn();
+        Kitchen x = new Kitchen();
         Checks.slab(x, 0, "t12 c20 s5");
         c.tells(x, "41 one TICK each: 3 .. 20 off by 2 .. 19", x.rule(0, 20, 1, 0), 1, 189);
         int[][] bad = {{-1, 20, 1, 0}, {4, 20, 1, 0}, {0, 9, 1, 0}, {0, 31, 1, 0}, {0, 20, 0, 0}, {0, 20, 61, 0}, {0, 20, 1, -1},
@@ -391,17 +411,8 @@ public final class SeveralTest {
 
     /** The TICKS of a WAY turned each 40, 200 at most. */
     private static int ruleTicks(int thick, int q, int v) {
-        SlabTurn x = new SlabTurn();
-        Checks.slab(x, 0, "c20 s5 t" + thick);
         String on = "i" + q + ":40";
-        Checks.plan(x, 0, on + "u" + on + "u" + on + "u" + on + "u" + on);
-        x.dish(0, 0);
-        for (int n = 1; n < 200; n++) {
-            x.go(1);
-            if (middle(x, thick, 1) >= v) {
-                return n;
-            }
-        }
-        return 200;
+        String plan = on + "u" + on + "u" + on + "u" + on + "u" + on;
+        return Math.min(200, firstOf(middles("c20 s5 t" + thick, thick, plan, 1), v));
     }
 }

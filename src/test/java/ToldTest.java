@@ -12,8 +12,8 @@ public final class ToldTest {
         c.end();
     }
 
-    private static SlabTurn kitchen() {
-        SlabTurn x = new SlabTurn();
+    private static Kitchen kitchen() {
+        Kitchen x = new Kitchen();
         Checks.slab(x, 0, "t4 c20 f8");
         Checks.slab(x, 1, "t6 c5");
         Checks.plan(x, 0, "d i28:12 u i28:12");
@@ -22,7 +22,7 @@ public final class ToldTest {
     }
 
     private static void asked() {
-        SlabTurn x = new SlabTurn();
+        Kitchen x = new Kitchen();
         c.due("42 asked() before", x.asked(), 0);
         x.row(0, 3);
         x.lay(0, 0, 12);
@@ -72,7 +72,7 @@ public final class ToldTest {
     }
 
     private static void upperAndLower() {
-        SlabTurn x = kitchen();
+        Kitchen x = kitchen();
         c.due("43 upper() before", x.upper(), 0);
         c.due("44 lower() before", x.lower(), 1);
         x.dish(0, 0);
@@ -87,7 +87,7 @@ public final class ToldTest {
         x.odds(0, 1);
         c.due("43 none: 0", x.upper(), 0);
         c.due("44 none: by 1", x.lower(), 1);
-        SlabTurn y = new SlabTurn();
+        Kitchen y = new Kitchen();
         for (int k = 0; k < 4; k++) {
             Checks.slab(y, k, "t3");
             Checks.plan(y, k, "");
@@ -100,7 +100,7 @@ public final class ToldTest {
     }
 
     private static void counts() {
-        SlabTurn x = kitchen();
+        Kitchen x = kitchen();
         int[] due = {2, 2, 0, 0, 0, 0, 0, 1};
         for (int what = 0; what < 8; what++) {
             c.due("45 count(" + what + ")", x.count(what), due[what]);
@@ -135,7 +135,7 @@ public final class ToldTest {
     }
 
     private static void findings() {
-        SlabTurn x = kitchen();
+        Kitchen x = kitchen();
         c.due("46 finding() before", x.finding(), 0);
         for (int f = 1; f <= 5; f++) {
             c.due("47 findings(" + f + ") before", x.findings(f), 0);
@@ -174,7 +174,7 @@ public final class ToldTest {
     }
 
     private static void digestOfNothing() {
-        SlabTurn x = new SlabTurn();
+        Kitchen x = new Kitchen();
         long h = over(17, 0, 0, 0, 0, 0, 0, 0, 0);
         h = over(h, -1, -1, -1, -1, -1, -1, -1, -1, -1);
         h = over(h, -1, -1, -1, -1, -1, -1, -1, -1, -1, -1);
@@ -182,7 +182,7 @@ public final class ToldTest {
     }
 
     private static void digestOfAll() {
-        SlabTurn x = new SlabTurn();
+        Kitchen x = new Kitchen();
         Checks.text(x, 1, "t3c5f8");
         x.slab(2, 1);
         Checks.text(x, 1, "i30:2u");

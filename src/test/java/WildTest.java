@@ -1,7 +1,6 @@
 import java.lang.reflect.InvocationTargetException;
 import java.lang.reflect.Method;
 import java.util.Arrays;
-import java.util.Comparator;
 
 /** Every call with any numbers in any state: it answers, and what it refuses changes nothing. */
 public final class WildTest {
@@ -13,12 +12,10 @@ public final class WildTest {
     private static long seed = 7;
 
     public static void main(String[] args) throws Exception {
-        Method[] calls = SlabTurn.class.getDeclaredMethods();
-        calls = Arrays.stream(calls).filter(m -> java.lang.reflect.Modifier.isPublic(m.getModifiers()))
-            .sorted(Comparator.comparing(Method::getName)).toArray(Method[]::new);
-        for (int run = 0; run < 600; run++) {
-            SlabTurn x = run % 3 == 0 ? new SlabTurn() : full(run);
-            for (int i = 0; i < 60; i++) {
+        Method[] calls = Kitchen.calls().values().toArray(new Method[0]);
+        for (int run = 0; run < 2000; run++) {
+            Kitchen x = run % 3 == 0 ? new Kitchen() : full(run);
+            for (int i = 0; i < 20; i++) {
                 wild(x, calls[any(calls.length)]);
             }
         }
@@ -30,8 +27,8 @@ public final class WildTest {
         return (int) ((seed >>> 33) % n);
     }
 
-    private static SlabTurn full(int run) {
-        SlabTurn x = new SlabTurn();
+    private static Kitchen full(int run) {
+        Kitchen x = new Kitchen();
         for (int k = 0; k < 4; k++) {
             Checks.slab(x, k, SLABS[(k + run) % 4]);
             Checks.plan(x, k, PLANS[any(4)]);
@@ -44,7 +41,7 @@ public final class WildTest {
         return x;
     }
 
-    private static void wild(SlabTurn x, Method call) throws IllegalAccessException {
+    private static void wild(Kitchen x, Method call) throws IllegalAccessException {
         Object[] args = new Object[call.getParameterCount()];
         boolean tame = any(2) == 0;
         for (int i = 0; i < args.length; i++) {
@@ -75,7 +72,7 @@ public final class WildTest {
         }
     }
 
-    private static int found(SlabTurn x) {
+    private static int found(Kitchen x) {
         int all = 0;
         for (int f = 1; f <= 5; f++) {
             all += x.findings(f);
