@@ -639,7 +639,7 @@ public final class RowsEdgesTest {
             FAULT plan "r5:5" = 2
             FAULT plan "i2:5:5" = 4
             """);
-        e.run("10 one or two figures", """
+        e.run("10 a PLAN: one or two figures", """
             FAULT plan "i2:1" = NONE
             FAULT plan "i02:01" = NONE
             FAULT plan "i002:1" = 3
@@ -650,7 +650,7 @@ public final class RowsEdgesTest {
             FAULT plan "r001" = 3
             FAULT plan "r100" = 3
             """);
-        e.run("10 the TEXT's size, if its end comes too early", """
+        e.run("10 a PLAN: the TEXT's size, if its end comes too early", """
             FAULT plan "i" = 1
             FAULT plan "o" = 1
             FAULT plan "b" = 1
@@ -700,7 +700,7 @@ public final class RowsEdgesTest {
             FAULT plan "r61" = 3
             FAULT plan "r99" = 3
             """);
-        e.run("10 a FAULT is the first place", """
+        e.run("10 a PLAN: a FAULT is the first place", """
             FAULT plan "i1:0" = 2
             FAULT plan "i31" = 3
             FAULT plan "i1" = 2

@@ -303,6 +303,16 @@ public final class SeveralEdgesTest {
             both 0 1 8 385 2000 = NONE
             both 0 1 8 382 2000 = 199 told 2
             """);
+        e.run("37 a MOST, whatever it has now", """
+            SLAB 0 "t3 c40"
+            PLAN 0 "o2:60"
+            dish 0 0 = 60
+            go 60 = 60
+            depth 1 0 = 1 told 212
+            both 0 0 2 400 400 = 1 told 200
+            both 0 0 2 401 2000 = NONE
+            both 0 0 2 0 399 = NONE
+            """);
         e.run("37 a SLAB v, another one w", """
             SLAB 0 "t4 c20 f3 s1"
             SLAB 1 "t9 c5"
@@ -350,6 +360,15 @@ public final class SeveralEdgesTest {
             safe 0 6 = 43 told 598
             safe 1 9 = 14 told 880
             safe 2 10 = 12 told 960
+            """);
+        e.run("38 300 or more together: not 299", """
+            # 299 are counted by TICK 12, 17, 51.
+            SLAB 0 "t3 c6"
+            SLAB 1 "t3 c11"
+            SLAB 2 "t4 c1"
+            safe 0 10 = 13 told 970
+            safe 1 8 = 18 told 795
+            safe 2 6 = 52 told 596
             """);
         e.run("38 by what it has above 500, by 10 (cut), each TICK by itself; below 500 it counts nothing", """
             # Till TICK 7 it has less than 500, and by TICK 43 just 300 are counted.
