@@ -578,6 +578,20 @@ public final class DishEdgesTest {
             go 8 = 16
             rise = 168 told 6
             """);
+        e.run("24, 25 at TICK 300, too: it stays", """
+            SLAB 0 "t20 c40"
+            PLAN 0 "b7:50 b7:50 b7:50 b7:50"
+            dish 0 0 = 200
+            go 200 = 200
+            go 99 = 299
+            cut 60 = 50 told 30
+            go 1 = 300
+            cut 0 = 50 told 50
+            cut 60 = 50 told 30
+            rise = 0 told 0
+            go 1 = SPENT
+            go 0 = 300
+            """);
         e.run("25, 26 by what it has now, whatever its MOST", """
             SLAB 0 "t3 c40"
             PLAN 0 "b2:3 b6:1"
@@ -634,6 +648,22 @@ public final class DishEdgesTest {
             wire 3 = 86 told 1841
             wire 4 = 86 told 1841
             wire 9 = 86 told 1841
+            """);
+        e.run("26 within the SLAB: each way by itself", """
+            SLAB 0 "t3 c0"
+            SLAB 1 "t4 c0"
+            PLAN 0 "d i30:3"
+            dish 0 0 = 3
+            go 3 = 3
+            wire 2 = 73 told 1360
+            wire 9 = 73 told 1360
+            dish 1 0 = 3
+            go 3 = 3
+            depths 0 = 1359 375 53 27
+            wire 1 = 27 told 375
+            wire 2 = 27 told 1359
+            wire 3 = 27 told 1359
+            wire 9 = 27 told 1359
             """);
         e.run("26 d 0 .. 9, all within twenty DEPTHS", """
             SLAB 0 "t20 c0"

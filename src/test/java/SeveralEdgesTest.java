@@ -161,6 +161,22 @@ public final class SeveralEdgesTest {
             order 8 5 = 43
             places 5 = 3
             """);
+        e.run("36 of PLANS that take 200 TICKS each: behind TICK 300, too", """
+            SLAB 0 "t20 c40"
+            SLAB 1 "t20 c40"
+            SLAB 2 "t20 c40 s60"
+            SLAB 3 "t19 c40"
+            PLAN 0 "b7:50 b7:50 b7:50 b7:50"
+            PLAN 1 "b8:50 b8:50 b8:50 b8:50"
+            PLAN 2 "r50 r50 r50 r50"
+            PLAN 3 "o20:50 o20:50 o20:50 o20:50"
+            order 15 0 = 0
+            places 0 = 0 1 2 3
+            order 3 0 = 98
+            places 0 = 0 1
+            order 4 0 = 0
+            order 8 0 = 0
+            """);
         e.run("36 made to its end: a DRY behind all TICKS is done", """
             SLAB 0 "t3 c40"
             SLAB 1 "t3"
