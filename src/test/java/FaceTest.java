@@ -8,6 +8,8 @@ import java.nio.file.Path;
 import java.util.Arrays;
 import java.util.Set;
 import java.util.TreeSet;
+import java.util.regex.Matcher;
+import java.util.regex.Pattern;
 import java.util.stream.Collectors;
 
 /** The face of the class is the document's and nothing else; what can be told of the language's rules by looking. */
@@ -25,6 +27,8 @@ public final class FaceTest {
     };
     private static final String[] UNWANTED = {"throw", "try", "catch", "synchronized", "assert", "import", "package", "System.out",
         "->", "::", "java.", "static {", "Exact", "hashCode", "toString", "protected", "lambda"};
+    /** What the class uses of the library; rule 4 has more. */
+    private static final Set<String> LIBRARY = Set.of("Math.max", "Math.min", "Math.abs", "Integer.bitCount", "System.arraycopy");
     private static final Checks c = new Checks("FaceTest");
 
     public static void main(String[] args) throws Exception {
@@ -115,6 +119,9 @@ public final class FaceTest {
             boolean isWord = word.chars().allMatch(Character::isLetter);
             boolean there = isWord ? bare.matches("(?s).*\\b" + word + "\\b.*") : bare.contains(word);
             c.due("the source holds " + word, there ? 1 : 0, 0);
+        }
+        for (Matcher used = Pattern.compile("\\b[A-Z][a-z]\\w*\\.\\w+").matcher(bare); used.find();) {
+            c.due("the source uses " + used.group(), LIBRARY.contains(used.group()) ? 1 : 0, 1);
         }
         c.due("plain signs alone", source.chars().allMatch(s -> s == '\n' || s >= 32 && s < 127) ? 1 : 0, 1);
         int lines = 0;
