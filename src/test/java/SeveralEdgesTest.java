@@ -279,6 +279,25 @@ public final class SeveralEdgesTest {
             order 7 0 = NOTHING
             places 0 = 0 1
             """);
+        for (int k = 0; k < 4; k++) {
+            orderWithout("SLAB", "PLAN", k);
+            orderWithout("PLAN", "SLAB", k);
+        }
+    }
+
+    /** All SLABS and PLANS are there, but for one. */
+    private static void orderWithout(String kind, String other, int missing) {
+        StringBuilder lines = new StringBuilder("ROW 0: 7\n");
+        for (int k = 0; k < 4; k++) {
+            lines.append(other + " " + k + " \"\"\n");
+            lines.append(k == missing ? "" : kind + " " + k + " \"\"\n");
+        }
+        int bit = 1 << missing;
+        for (int set = 1; set <= 15; set++) {
+            lines.append((set & bit) == 0 ? "order " + set + " 1 = 0\n" : "order " + set + " 0 = NOTHING\n");
+        }
+        lines.append("places 0 = 7\n");
+        e.run("36 NOTHING: any of these: " + kind + " " + missing, lines.toString());
     }
 
     private static void both() {
@@ -318,6 +337,15 @@ public final class SeveralEdgesTest {
             both 0 1 8 384 2000 = 200 told 1
             both 0 1 8 385 2000 = NONE
             both 0 1 8 382 2000 = 199 told 2
+            """);
+        e.run("37 each by its own SALT", """
+            # By TICK 18 the WET SKINS of SLAB 1 keep it below 1000.
+            SLAB 0 "t3 s50"
+            SLAB 1 "t3 s10"
+            both 0 1 30 1000 1000 = 9 told 10
+            both 0 1 30 1200 1000 = 11 told 8
+            both 1 0 30 1000 1000 = NONE
+            both 1 1 30 999 999 = 15 told 4
             """);
         e.run("37 a MOST, whatever it has now", """
             SLAB 0 "t3 c40"
@@ -413,6 +441,21 @@ public final class SeveralEdgesTest {
             safe 2 5 = NONE
             safe 2 2 = NONE
             safe 2 30 = 9 told 997
+            """);
+        e.run("38 by what it has, not by its MOST; its WARMTH then", """
+            # SKINS that are not WET in TICK 1 are above 1000 behind it, so that THE MIDDLE cools from TICK 3 on.
+            SLAB 0 "t3 c40 s50"
+            PLAN 0 "b30:7"
+            dish 0 0 = 7
+            go 2 = 2
+            depth 1 0 = 1 told 1050
+            go 1 = 3
+            depth 1 0 = 1 told 1025
+            go 4 = 7
+            depth 1 0 = 1 told 1002
+            depth 1 1 = 1 told 1050
+            safe 0 30 = 7 told 1002
+            safe 0 29 = 7 told 1001
             """);
         e.run("38 q 2 .. 30; SLABS 0 .. 3; BAD is ahead of NOTHING", KITCHEN + """
             safe 0 1 = BAD
