@@ -649,6 +649,19 @@ public final class DishEdgesTest {
             wire 4 = 86 told 1841
             wire 9 = 86 told 1841
             """);
+        e.run("26 the least of both ways, whichever way it is", """
+            # The other SKIN is down: as it is without the TURN, the other way round.
+            SLAB 0 "t6 c5 f4"
+            PLAN 0 "d u i30:7"
+            dish 0 0 = 7
+            go 7 = 7
+            depths 0 = 86 85 157 399 939 1841
+            wire 0 = 399 told 399
+            wire 1 = 157 told 939
+            wire 2 = 85 told 1841
+            wire 3 = 86 told 1841
+            wire 9 = 86 told 1841
+            """);
         e.run("26 within the SLAB: each way by itself", """
             SLAB 0 "t3 c0"
             SLAB 1 "t4 c0"

@@ -514,6 +514,15 @@ public final class WaysEdgesTest {
             salt 1 1 = 50 told 26
             about 1 2 = 1 told 1
             """);
+        e.run("33 else as a SLAB: its THICK", """
+            SLAB 0 "t3"
+            SLAB 1 "t4"
+            SLAB 2 "t12"
+            PLAN 0 "i28:20 u i28:20"
+            salt 0 0 = 50 told 119
+            salt 1 0 = 48 told 85
+            salt 2 0 = 48 told 77
+            """);
         e.run("33 made to its end: a DRY behind all TICKS does not brown", """
             SLAB 0 "t3 c5 s33"
             PLAN 0 "i30:12 u i30:12 d u"
@@ -556,6 +565,21 @@ public final class WaysEdgesTest {
             thick 0 0 400 400 = 18 told 3
             thick 1 0 400 400 = 18 told 3
             about 1 0 = 1 told 20
+            """);
+        e.run("34 else as a SLAB: its SALT", """
+            SLAB 0 "t10"
+            SLAB 1 "t10 s10"
+            SLAB 2 "t10 s33"
+            SLAB 3 "t10 s50"
+            PLAN 0 "i30:9 u i30:9"
+            thick 0 0 500 649 = 1 told 7
+            thick 1 0 500 649 = 0 told NONE
+            thick 2 0 500 649 = 1 told 7
+            thick 3 0 500 649 = 0 told NONE
+            thick 0 0 900 4000 = 3 told 3
+            thick 1 0 900 4000 = 2 told 3
+            thick 2 0 900 4000 = 3 told 3
+            thick 3 0 900 4000 = 4 told 3
             """);
         e.run("34 a, b as of just()", KITCHEN + """
             thick 0 0 -1 5 = BAD
