@@ -414,6 +414,29 @@ public final class DishEdgesTest {
             skins 0 = 1 1
             mark 0 5 = UNLIKE
             """);
+        e.run("20, 21 the KIND that its SKINS were of by the latest TICK", """
+            SLAB 0 "t3"
+            PLAN 0 "d i20:3 r5 o10:2"
+            dish 0 0 = 10
+            keep 2 = 0
+            go 2 = 2
+            skins 0 = 0 2
+            keep 0 = 2
+            go 2 = 4
+            skins 0 = 4 4
+            keep 1 = 4
+            go 5 = 9
+            skins 0 = 0 0
+            on 0 = 2
+            skins 0 = 0 2
+            on 1 = 4
+            skins 0 = 4 4
+            mark 0 4 = 1
+            go 1 = 5
+            mark 1 4 = 2
+            on 2 = 0
+            skins 0 = 1 1
+            """);
         e.run("20 kept as it is: what is done behind it does not change what is kept", """
             SLAB 0 "t3 c0"
             PLAN 0 "i30:3"
@@ -492,6 +515,17 @@ public final class DishEdgesTest {
             dish 1 1 = 0
             slice 1 = 0
             places 1 = 0 0 0 0 0 0 0 0 0 0 0 0 0 0 0 0 0 0 0 0
+            """);
+        e.run("23 by its MOST, whatever it has now", """
+            SLAB 0 "t5 c20"
+            PLAN 0 "b6:12 r60"
+            dish 0 0 = 72
+            go 72 = 72
+            depths 0 = 297 311 316 311 297
+            depths 1 = 552 485 480 485 552
+            slice 0 = 2
+            places 0 = 1 0 0 0 1
+            just 500 649 = 2 told 500
             """);
         e.run("23 BAD is ahead of STATE", KITCHEN + """
             ROW 0: 7

@@ -14,6 +14,7 @@ public final class SeveralEdgesTest {
     public static void main(String[] args) {
         same();
         sameLimits();
+        dishStays();
         order();
         orderByNumbers();
         orderLimits();
@@ -190,6 +191,31 @@ public final class SeveralEdgesTest {
             PLAN 0 "d b30:1"
             order 3 0 = 56
             order 1 0 = 114
+            """);
+    }
+
+    private static void dishStays() {
+        e.run("3 the DISH stays as it is", """
+            SLAB 0 "t4 c20"
+            SLAB 1 "t5"
+            PLAN 0 "i20:5 u i20:5 r3"
+            PLAN 1 "b6:9"
+            ROW 0: 2 1 1 1
+            dish 0 0 = 13
+            go 7 = 7
+            same 0 1 28 3 500 500 = 4 told 1
+            both 1 0 20 500 900 = 13 told 2
+            safe 0 7 = 29 told 691
+            which 0 = 0 told 3
+            odds 0 0 = 2
+            upper = 1
+            lower = 2
+            rule 0 28 3 500 = 3 told 124
+            depths 2 = 81 100 100 96
+            order 3 1 = 37
+            places 1 = 0 1
+            depths 2 = 81 100 100 96
+            go 3 = 10
             """);
     }
 
@@ -474,6 +500,18 @@ public final class SeveralEdgesTest {
 
     /** SLABS 1 and 3 of four DEPTHS, 2 of five; PLANS 0, 3 leave them raw, 1 makes their SKINS PINK. */
     private static void which() {
+        e.run("39 a slice, made: by its SALT", """
+            SLAB 0 "t7"
+            SLAB 1 "t7 s10"
+            SLAB 2 "t7 s50"
+            PLAN 0 "i30:9 u i30:9"
+            ROW 0: 2 2 1 1 1 2 2
+            which 0 = 0 told 0
+            ROW 0: 2 2 1 0 1 2 2
+            which 0 = 10 told 0
+            ROW 0: 2 2 2 2 2 2 2
+            which 0 = 20 told 0
+            """);
         e.run("39 by SLABS, then PLANS; how many places are told otherwise", """
             SLAB 1 "t4 c40"
             SLAB 2 "t5 c40"
